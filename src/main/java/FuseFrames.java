@@ -108,7 +108,7 @@ public final class FuseFrames {
 
     private static final int STACK = 64;
     private static final int SUM_LIMIT = 1_000_000_000;
-    private static final int BROKEN = Integer.MIN_VALUE;
+    private static final int BROKEN = -2_000_000_000;
 
     private static final int LARGEST_SEED = 1_000_000;
     private static final int MOST_EVENINGS = 60;
@@ -294,7 +294,9 @@ public final class FuseFrames {
             tape.length = 0;
             return refused(FULL);
         }
-        readTape(true);
+        reader.read(tape, true);
+        fault = reader.fault;
+        tape.length = 0;
         if (fault != NONE) {
             return refused(UNREADABLE);
         }
@@ -303,14 +305,10 @@ public final class FuseFrames {
         return answered(frame.laws - 1);
     }
 
-    private void readTape(boolean law) {
-        reader.read(tape, law);
+    public int orders() {
+        reader.read(tape, false);
         fault = reader.fault;
         tape.length = 0;
-    }
-
-    public int orders() {
-        readTape(false);
         stopped = NONE;
         if (fault != NONE) {
             return refused(UNREADABLE);
@@ -321,7 +319,7 @@ public final class FuseFrames {
         facts[W_DONE - W_FUSE] = 0;
         facts[W_LATEST - W_FUSE] = NONE;
         if (script.asksGone) {
-            facts[W_GONE - W_FUSE] = goneNow();
+            facts[W_GONE - W_FUSE] = goneIn(frame);
         }
         for (int clause = 0; clause < script.clauses; clause++) {
             if (!ran(script, clause)) {
@@ -348,7 +346,7 @@ public final class FuseFrames {
             }
             facts[W_DONE - W_FUSE]++;
             if (script.asksGone) {
-                facts[W_GONE - W_FUSE] = goneNow();
+                facts[W_GONE - W_FUSE] = goneIn(frame);
             }
             if (verb == W_PASS) {
                 facts[W_LATEST - W_FUSE] = facts[W_GONE - W_FUSE];
@@ -459,7 +457,7 @@ public final class FuseFrames {
         if (refusal < 0) {
             return refused(refusal);
         }
-        return answered(goneNow());
+        return answered(goneIn(frame));
     }
 
     private int passSecond() {
@@ -493,10 +491,6 @@ public final class FuseFrames {
                 break;
         }
         return answered(deed);
-    }
-
-    private int goneNow() {
-        return goneIn(frame);
     }
 
     private int goneIn(Frame which) {
@@ -903,7 +897,7 @@ public final class FuseFrames {
             case 14: return frame.term[SECOND];
             case 15: return frame.term[RAIN];
             case 16: return frame.term[MOOD];
-            case 17: return goneNow();
+            case 17: return goneIn(frame);
             default: return NONE;
         }
     }
@@ -1502,7 +1496,17 @@ public final class FuseFrames {
                     take(')');
                 }
             } else {
-                comparison(depth);
+                sum(depth);
+                int op = isSign('<') ? OP_LESS : isSign('>') ? OP_MORE : OP_SAME;
+                if (op == OP_SAME) {
+                    take('=');
+                } else {
+                    goOn();
+                }
+                if (fault == NONE) {
+                    sum(depth);
+                    script.put(op, 0);
+                }
             }
             if (not) {
                 script.put(OP_NOT, 0);
@@ -1516,19 +1520,6 @@ public final class FuseFrames {
             }
             goOn();
             return true;
-        }
-
-        private void comparison(int depth) {
-            sum(depth);
-            int op = isSign('<') ? OP_LESS : isSign('>') ? OP_MORE : OP_SAME;
-            if (op == OP_SAME && !isSign('=')) {
-                fail();
-            }
-            if (fault == NONE) {
-                goOn();
-                sum(depth);
-                script.put(op, 0);
-            }
         }
 
         private void sum(int depth) {
