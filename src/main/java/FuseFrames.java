@@ -125,11 +125,10 @@ public final class FuseFrames {
     private final Tape tape = new Tape();
     private final Reader reader = new Reader();
     private final Sums sums = new Sums();
-    private final Fire fire = new Fire(sums);
+    private final Fire fire = new Fire();
     private final int[] facts = new int[FACTS];
     private final int[] refusals = new int[-UNREADABLE];
     private final long[] chances = new long[MOST_FEW];
-    private boolean hadEvenings = false;
     private int ash = 0;
     private int fault = NONE;
     private int stopped = NONE;
@@ -663,16 +662,19 @@ public final class FuseFrames {
         if (!isKnot(knot) || !isPair(what)) {
             return NONE;
         }
-        int soonest = lastOutFrom(knot);
+        fire.measure(frame, frame.lawInForce());
+        fire.spreadFrom(frame, 1 << knot);
+        int soonest = fire.lastOut(frame, ALL_FUSES);
         int twos = NONE;
         if (soonest == NONE) {
             return NONE;
         }
         for (int one = 0; one < frame.fuses; one++) {
             for (int other = one + 1; other < frame.fuses; other++) {
-                frame.swapLengths(one, other);
-                int last = lastOutFrom(knot);
-                frame.swapLengths(one, other);
+                swapOnPaper(one, other);
+                fire.spreadFrom(frame, 1 << knot);
+                int last = fire.lastOut(frame, ALL_FUSES);
+                swapOnPaper(one, other);
                 if (isSooner(last, soonest)) {
                     soonest = last;
                     twos = 10 * one + other;
@@ -685,9 +687,10 @@ public final class FuseFrames {
         return what == 0 ? twos : soonest;
     }
 
-    private int lastOutFrom(int knot) {
-        burnOnPaper(1 << knot);
-        return fire.lastOut(frame, ALL_FUSES);
+    private void swapOnPaper(int one, int other) {
+        frame.swapLengths(one, other);
+        fire.measureFuse(frame, frame.lawInForce(), one);
+        fire.measureFuse(frame, frame.lawInForce(), other);
     }
 
     public int measured(int h, int what) {
@@ -822,7 +825,6 @@ public final class FuseFrames {
             return refused(IMPOSSIBLE);
         }
         evening.become(frame);
-        hadEvenings = true;
         int drawn = seed;
         for (int time = 0; time < n && evening.term[SECOND] < LAST_SECOND; time++) {
             drawn = nextDraw(drawn);
@@ -839,10 +841,8 @@ public final class FuseFrames {
         return (int) ((drawn * 1103L + 12345L) % 1_000_003L);
     }
 
+    // Ahead of any evenings the paper is an empty frame, of which all is NONE.
     public int drawn(int k, int what) {
-        if (!hadEvenings) {
-            return NONE;
-        }
         if (what == 0 && evening.hasFuse(k)) {
             return bit(evening.damp, k);
         }
@@ -1588,33 +1588,25 @@ public final class FuseFrames {
         final int[] comes = new int[KNOTS];
         private final int[] facts = new int[FACTS];
         private final int[] alike = new int[KNOTS];
-        private final Sums sums;
-
-        Fire(Sums sums) {
-            this.sums = sums;
-        }
+        private final Sums sums = new Sums();
 
         // ---- by a law (null: none)
 
         void measure(Frame frame, Script law) {
-            Arrays.fill(facts, NONE);
             facts[W_SECOND - W_FUSE] = frame.term[SECOND];
             facts[W_MOOD - W_FUSE] = frame.term[MOOD];
-            catching = 0;
             for (int fuse = 0; fuse < frame.fuses; fuse++) {
                 measureFuse(frame, law, fuse);
             }
-            facts[W_FUSE - W_FUSE] = NONE;
-            facts[W_KIND - W_FUSE] = NONE;
-            facts[W_LONG - W_FUSE] = NONE;
-            facts[W_FROM - W_FUSE] = NONE;
-            facts[W_TO - W_FUSE] = NONE;
             for (int knot = 0; knot < KNOTS; knot++) {
                 measureKnot(frame, law, knot);
             }
         }
 
-        private void measureFuse(Frame frame, Script law, int fuse) {
+        // Behind measure() this is enough for a fuse whose length alone has become another one.
+        void measureFuse(Frame frame, Script law, int fuse) {
+            facts[W_KNOT - W_FUSE] = NONE;
+            facts[W_ENDS - W_FUSE] = NONE;
             facts[W_FUSE - W_FUSE] = fuse;
             facts[W_KIND - W_FUSE] = frame.kind[fuse];
             facts[W_LONG - W_FUSE] = frame.length[fuse];
@@ -1635,12 +1627,19 @@ public final class FuseFrames {
                     burns[fuse] = Math.max(1, Math.min(MOST_BURN, told));
                 }
             }
-            if (!barred && bit(frame.damp, fuse) == 0) {
+            if (barred || bit(frame.damp, fuse) == 1) {
+                catching &= ~(1 << fuse);
+            } else {
                 catching |= 1 << fuse;
             }
         }
 
         private void measureKnot(Frame frame, Script law, int knot) {
+            facts[W_FUSE - W_FUSE] = NONE;
+            facts[W_KIND - W_FUSE] = NONE;
+            facts[W_LONG - W_FUSE] = NONE;
+            facts[W_FROM - W_FUSE] = NONE;
+            facts[W_TO - W_FUSE] = NONE;
             facts[W_KNOT - W_FUSE] = knot;
             facts[W_ENDS - W_FUSE] = frame.tiedTo(knot);
             holds[knot] = 0;

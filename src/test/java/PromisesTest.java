@@ -287,7 +287,9 @@ public final class PromisesTest {
         is("brackets", under("burns [20-3]*[1+1]").of(0, 5), 34);
         is("cut towards 0", under("burns 10+[0-7]/2").of(0, 5), 7);
         is("what is left then", under("burns 10+[0-7]%4").of(0, 5), 7);
-        is("just 1,000,000,000", under("burns 1000*1000*1000/1000/1000/100").of(0, 5), 10);
+        is("just 1,000,000,000", under("burns 1000*1000*1000/1000/1000/50").of(0, 5), 20);
+        is("just as far below", under("burns 21+[0-1000*1000*1000]/1000/1000/1000").of(0, 5), 20);
+        is("just as far below", under("burns 21+[0-1000]*1000*1000/1000/1000/1000").of(0, 5), 20);
         is("beyond it", under("burns [1000*1000*1000+1]/1000/1000/500").of(1, 5), 4);
         is("beyond it below", under("burns 5;burns 0-1000*1000*1000-1").of(0, 5), 5);
         is("or does not ask", under("burns 5 if kind = 2 or 1/0 = 1").of(0, 5), 5);
@@ -351,6 +353,16 @@ public final class PromisesTest {
         faultOfLaw("bars\t", 4);
         faultOfLaw("bars\351", 4);
         faultOfLaw("barsif 1=1", 0);
+        faultOfLaw("barsz", 0);
+        faultOfLaw("bars`", 4);
+        faultOfLaw("bars{", 4);
+        faultOfLaw("burns 1/", 8);
+        faultOfLaw("burns 1:", 7);
+        faultOfLaw("(".repeat(400), 0);
+        faultOfLaw("bars if " + "(".repeat(392), 16);
+        faultOfLaw("bars if " + "not ".repeat(98), 400);
+        is("a text as long as can be", law(new FuseFrames(), "bars" + " ".repeat(396)), 0);
+        faultOfLaw(" ".repeat(400), 400);
         is("letters and digits part", law(new FuseFrames(), "burns1if1=1or2=2"), 0);
         faultOfOrders("", 0);
         faultOfOrders("  ", 2);
@@ -738,6 +750,23 @@ public final class PromisesTest {
         is("no such", x.measured(8, 2), -1);
         x.soak(0);
         is("damp ones aside", x.measured(20, 0), -1);
+        x = new FuseFrames();
+        for (int i = 0; i < 5; i++) {
+            x.fuse(i, (i + 1) % 5, i == 4 ? 4 : 60, 0);
+        }
+        law(x, "burns 99 if long = 60");
+        x.force(0);
+        is("around and together 400", x.measured(400, 0), 0);
+        x.fuse(4, 5, 5, 0);
+        x.fuse(5, 0, 1, 0);
+        x.soak(4);
+        is("not all are out", x.compare(0, 0), -1);
+        x.soak(6);
+        law(x, "burns 99 if long = 60;burns 5 if long = 4");
+        x.force(1);
+        x.soak(4);
+        is("401 is there, but too long", x.out(1, 2), 401);
+        is("too long", x.measured(401, 0), -1);
     }
 
     private static void guesses() {
@@ -797,6 +826,7 @@ public final class PromisesTest {
         is("there", x.wet(3, 3, 0), 15);
         is("no knot", x.wet(-1, 0, 0), -1);
         is("no knot", x.wet(0, 8, 0), -1);
+        is("the last", x.wet(0, 2, 999), 0);
         is("too late", x.wet(0, 2, 1000), -1);
         is("below", x.wet(0, 2, -2), -1);
     }
@@ -907,6 +937,18 @@ public final class PromisesTest {
         is("the evenings stay", x.drawn(2, 0), 0);
         is("back to the other", x.back(0), 0);
         is("damp", x.of(0, 4), 1);
+        x.seen(2, 4);
+        x.letter(2);
+        x.light(1);
+        x.terms(2, 5);
+        x.image(0);
+        x.forget();
+        x.seen(0, 4);
+        x.back(0);
+        is("what was seen", x.was(), 2);
+        is("a letter", x.stands(2, 0), 8);
+        is("a match", x.at(1, 0), 0);
+        is("a term", x.count(16), 5);
         is("images stay", x.back(1), 0);
         is("not damp", x.of(0, 4), 0);
         x.end(0);
