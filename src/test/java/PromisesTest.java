@@ -1,77 +1,7 @@
 /** For each promise of the document: ordinary inputs, the edges that it names, and wrong inputs. */
-public final class PromisesTest {
-    private static int wrong = 0;
-    private static int asked = 0;
-    private static int promise = 0;
-
-    private static void is(String what, long got, long want) {
-        asked++;
-        if (got != want) {
-            wrong++;
-            System.out.println("promise " + promise + ": " + what + " is " + got + ", due is " + want);
-        }
-    }
-
-    private static void tape(FuseFrames x, String text) {
-        for (int i = 0; i < text.length(); i += 20) {
-            int[] v = new int[5];
-            for (int j = 0; j < 20; j++) {
-                v[j / 4] = v[j / 4] << 8 | (i + j < text.length() ? text.charAt(i + j) : 0);
-            }
-            x.feed(v[0], v[1], v[2], v[3], v[4]);
-        }
-        x.end(text.length());
-    }
-
-    private static int law(FuseFrames x, String text) {
-        tape(x, text);
-        return x.law();
-    }
-
-    private static int orders(FuseFrames x, String text) {
-        tape(x, text);
-        return x.orders();
-    }
-
-    /** A law in force on a frame of its own: fuse 0 from 0 to 1, 10 long, kind 2; 1 from 1 to 2, 4, kind 0. */
-    private static FuseFrames under(String text) {
-        FuseFrames x = two();
-        is("law " + text, law(x, text), 0);
-        x.force(0);
-        return x;
-    }
-
-    private static FuseFrames two() {
-        FuseFrames x = new FuseFrames();
-        x.fuse(0, 1, 10, 2);
-        x.fuse(1, 2, 4, 0);
-        return x;
-    }
-
-    /** Knots 0 .. 7 in a row by fuses 0 .. 6, fuse i being i + 1 long. */
-    private static FuseFrames chain() {
-        FuseFrames x = new FuseFrames();
-        for (int i = 0; i < 7; i++) {
-            x.fuse(i, i + 1, i + 1, 0);
-        }
-        return x;
-    }
-
-    private static void faultOfLaw(String text, int place) {
-        FuseFrames x = new FuseFrames();
-        is("law " + text, law(x, text), -6);
-        is("fault of " + text, x.fault(), place);
-    }
-
-    private static void faultOfOrders(String text, int place) {
-        FuseFrames x = new FuseFrames();
-        is("orders " + text, orders(x, text), -6);
-        is("fault of " + text, x.fault(), place);
-        is("stopped of " + text, x.stopped(), -1);
-    }
-
+public final class PromisesTest extends Checks {
     private static void newObject() {
-        promise = 1;
+        in("promise 1");
         FuseFrames x = new FuseFrames();
         int[] due = {-1, 0, 0, 0, 0, 0, 0, 0, 0, 0, 0, 0, 0, 0, -1, 0, 1, 0, 0, -1};
         for (int what = -1; what <= 18; what++) {
@@ -88,7 +18,7 @@ public final class PromisesTest {
     }
 
     private static void fuses() {
-        promise = 2;
+        in("promise 2");
         FuseFrames x = new FuseFrames();
         int[][] cant = {{-1, 1, 5, 0}, {8, 1, 5, 0}, {0, -1, 5, 0}, {0, 8, 5, 0}, {3, 3, 5, 0}, {0, 1, 0, 0},
             {0, 1, 61, 0}, {0, 1, 5, -1}, {0, 1, 5, 4}};
@@ -109,7 +39,7 @@ public final class PromisesTest {
         x.fuse(0, 2, 5, 0);
         is("nothing can be undone", x.undo(), -3);
 
-        promise = 3;
+        in("promise 3");
         x = two();
         x.soak(1);
         int[] first = {0, 1, 10, 2, 0, 10, 1, -1, -1};
@@ -131,7 +61,7 @@ public final class PromisesTest {
         is("both fires meet", x.of(0, 7), 5 + 7 + 10);
         is("it goes on from there", x.of(1, 7), 22);
 
-        promise = 4;
+        in("promise 4");
         is("match", x.at(0, 0), 5);
         is("no match", x.at(2, 0), -1);
         is("holds", x.at(0, 1), 0);
@@ -148,7 +78,7 @@ public final class PromisesTest {
     }
 
     private static void lettersAndTerms() {
-        promise = 5;
+        in("promise 5");
         FuseFrames x = two();
         is("-1", x.letter(-1), -1);
         is("-1", x.letter(1024), -1);
@@ -161,7 +91,7 @@ public final class PromisesTest {
         x.fuse(2, 3, 6, 0);
         is("those that are there count", x.stands(1, 1), 40);
 
-        promise = 6;
+        in("promise 6");
         x = two();
         x.pass();
         int[] most = {999, 10, 9};
@@ -182,7 +112,7 @@ public final class PromisesTest {
     }
 
     private static void tapes() {
-        promise = 7;
+        in("promise 7");
         FuseFrames x = new FuseFrames();
         for (int i = 1; i <= 20; i++) {
             is("feed", x.feed(0, 0, 0, 0, 0), 20 * i);
@@ -203,7 +133,7 @@ public final class PromisesTest {
         is("long", x.of(1, 2), 6);
         is("kind", x.of(1, 3), 2);
 
-        promise = 8;
+        in("promise 8");
         x = new FuseFrames();
         is("nothing of nothing", x.end(0), 0);
         is("not so many", x.end(1), -1);
@@ -214,7 +144,7 @@ public final class PromisesTest {
         is("less", x.end(7), 7);
         is("count", x.count(7), 7);
 
-        promise = 9;
+        in("promise 9");
         x = two();
         is("empty", x.row(), -6);
         is("status", x.status(), -6);
@@ -232,7 +162,7 @@ public final class PromisesTest {
         }
         tape(x, b + "\0\0\5\1\0\1");
         is("eight have room", x.row(), 8);
-        promise = 10;
+        in("promise 10");
         is("ash: no room, can't be, the end", x.ash(), 3);
         x.row();
         is("refused: as it was", x.ash(), 3);
@@ -246,7 +176,7 @@ public final class PromisesTest {
     }
 
     private static void laws() {
-        promise = 11;
+        in("promise 11");
         FuseFrames x = new FuseFrames();
         for (int i = 0; i < 6; i++) {
             is("law", law(x, "bars if fuse = " + i), i);
@@ -304,7 +234,7 @@ public final class PromisesTest {
     }
 
     private static void faults() {
-        promise = 13;
+        in("promise 13");
         String eleven = "bars;bars;bars;bars;bars;bars;bars;bars;bars;bars;bars;";
         is("twelve clauses", law(new FuseFrames(), eleven + "bars"), 0);
         faultOfLaw(eleven + "bars; bars", 61);
@@ -399,7 +329,7 @@ public final class PromisesTest {
     }
 
     private static void ordersRun() {
-        promise = 12;
+        in("promise 12");
         FuseFrames x = two();
         is("all four", orders(x, "light 0;soak 1;swap 0 with 1;pass"), 4);
         is("lit", x.at(0, 0), 0);
@@ -450,7 +380,7 @@ public final class PromisesTest {
         is("refused", x.count(10), cant.length);
         is("refused by -1, -2", x.count(8) + x.count(9), 0);
         orders(x, "pass times 20;soak 0;swap 0 with 1;light 1;light 1");
-        promise = 14;
+        in("promise 14");
         is("stopped", x.stopped(), 4);
         is("no fault", x.fault(), -1);
         is("can be undone as ahead of it", x.undo(), 1);
@@ -473,7 +403,7 @@ public final class PromisesTest {
     }
 
     private static void deeds() {
-        promise = 15;
+        in("promise 15");
         FuseFrames x = two();
         law(x, "burns 3");
         law(x, "burns 4");
@@ -487,7 +417,7 @@ public final class PromisesTest {
         is("status", x.status(), 0);
         is("it burns", x.of(0, 5), 10);
 
-        promise = 16;
+        in("promise 16");
         x = two();
         x.terms(0, 33);
         is("light", x.light(7), 33);
@@ -496,13 +426,13 @@ public final class PromisesTest {
         is("no knot", x.light(-1), -1);
         is("matches", x.count(2), 1);
 
-        promise = 17;
+        in("promise 17");
         is("soak", x.soak(1), 1);
         is("soak again", x.soak(1), 0);
         is("no fuse", x.soak(2), -2);
         is("no fuse", x.soak(-1), -2);
 
-        promise = 18;
+        in("promise 18");
         is("swap", x.swap(1, 0), 10);
         is("the other", x.of(0, 2), 4);
         is("itself", x.swap(1, 1), -1);
@@ -510,7 +440,7 @@ public final class PromisesTest {
         is("no fuse", x.swap(0, 2), -2);
         is("no fuse", x.swap(-1, 0), -2);
 
-        promise = 19;
+        in("promise 19");
         x = two();
         x.terms(0, 5);
         x.light(1);
@@ -529,7 +459,7 @@ public final class PromisesTest {
         is("none is left", x.pass(), -3);
         is("status", x.status(), -3);
 
-        promise = 20;
+        in("promise 20");
         x = two();
         is("nothing", x.undo(), -3);
         x.light(3);
@@ -564,7 +494,7 @@ public final class PromisesTest {
     }
 
     private static void paper() {
-        promise = 21;
+        in("promise 21");
         FuseFrames x = chain();
         x.terms(0, 50);
         x.light(7);
@@ -580,7 +510,7 @@ public final class PromisesTest {
         x.force(0);
         is("held on the way, not there", x.when(1, 3), 1 + 2 + 2 + 2 + 3);
 
-        promise = 22;
+        in("promise 22");
         is("held ahead of it", x.out(1, 1), 2 * (1 + 2 + 2));
         is("the other fire comes too late", x.out(1 | 128, 3), 2 * (1 + 2 + 2 + 2 + 3 + 2 + 4));
         x.force(-1);
@@ -595,7 +525,7 @@ public final class PromisesTest {
         is("damp", x.out(3, 0), -1);
         x.soak(0);
 
-        promise = 23;
+        in("promise 23");
         x.letter(3);
         x.letter(0);
         x.letter(1 << 9);
@@ -607,7 +537,7 @@ public final class PromisesTest {
         is("no letter", x.stands(1, -1), -1);
         is("too many", x.stands(256, 1), -1);
 
-        promise = 24;
+        in("promise 24");
         x = chain();
         is("one", x.best(1, 0), 30);
         is("where", x.best(1, 1), 1 << 5);
@@ -625,7 +555,7 @@ public final class PromisesTest {
         is("no fuses", new FuseFrames().best(3, 0), 0);
         is("no fuses", new FuseFrames().best(3, 1), 7);
 
-        promise = 25;
+        in("promise 25");
         x = chain();
         is("no letters", x.even(0), -1);
         x.letter(1);
@@ -637,7 +567,7 @@ public final class PromisesTest {
         is("it can't be", x.even(0), -1);
         is("it can't be", x.even(1), -1);
 
-        promise = 26;
+        in("promise 26");
         x = chain();
         is("where", x.centre(0), 5);
         is("how long", x.centre(1), 15);
@@ -647,7 +577,7 @@ public final class PromisesTest {
     }
 
     private static void ways() {
-        promise = 27;
+        in("promise 27");
         FuseFrames x = new FuseFrames();
         x.fuse(0, 1, 5, 0);
         x.fuse(1, 3, 5, 0);
@@ -675,7 +605,7 @@ public final class PromisesTest {
         is("no knot", x.way(0, -1, -1), -1);
         is("no such", x.way(0, 3, -2), -1);
 
-        promise = 28;
+        in("promise 28");
         x.soak(0);
         is("three ways", x.cut(0, 3, 0), 3);
         is("the lowest", x.cut(0, 3, 1), 1 | 8 | 16);
@@ -696,7 +626,7 @@ public final class PromisesTest {
         is("ten", x.cut(1, 0, 0), 10);
         is("ten", x.cut(1, 0, 1), 1023);
 
-        promise = 29;
+        in("promise 29");
         x = new FuseFrames();
         x.fuse(0, 1, 20, 0);
         x.fuse(1, 2, 3, 0);
@@ -733,7 +663,7 @@ public final class PromisesTest {
         x.soak(0);
         is("not all are out", x.exchanged(0, 0), -1);
 
-        promise = 30;
+        in("promise 30");
         x = two();
         is("match to fuse", x.measured(20, 0), 0);
         is("fuse to fuse, from 0", x.measured(8, 0), 0);
@@ -770,7 +700,7 @@ public final class PromisesTest {
     }
 
     private static void guesses() {
-        promise = 31;
+        in("promise 31");
         FuseFrames x = chain();
         is("no knot", x.seen(8, 0), -1);
         is("no knot", x.seen(-1, 0), -1);
@@ -781,16 +711,16 @@ public final class PromisesTest {
         }
         is("no room", x.seen(0, 0), -5);
         is("-1 is ahead", x.seen(8, 0), -1);
-        promise = 32;
+        in("promise 32");
         is("forget", x.forget(), 6);
         is("nothing", x.forget(), 0);
         is("count", x.count(4), 0);
         is("status stays", x.status(), -1);
-        promise = 33;
+        in("promise 33");
         is("everywhere", x.was(), 255);
         x.seen(2, 3);
         is("0 and 3", x.was(), 1 | 8);
-        promise = 34;
+        in("promise 34");
         is("where to look", x.look(0), 0);
         is("one is left", x.look(1), 1);
         is("no such", x.look(2), -1);
@@ -808,7 +738,7 @@ public final class PromisesTest {
         x.fuse(3, 4, 1, 0);
         is("0, 2 alike at 1", x.look(0), 0);
 
-        promise = 35;
+        in("promise 35");
         x = new FuseFrames();
         x.fuse(0, 1, 5, 0);
         x.fuse(1, 2, 5, 0);
@@ -832,7 +762,7 @@ public final class PromisesTest {
     }
 
     private static void chances() {
-        promise = 36;
+        in("promise 36");
         FuseFrames x = new FuseFrames();
         is("one", x.few(1, 3), 729000000000L);
         is("two of three", x.few(2, 3), 972000000000L);
@@ -854,7 +784,7 @@ public final class PromisesTest {
         is("n", x.few(1, -1), -1);
         is("n", x.few(1, 100), -1);
 
-        promise = 37;
+        in("promise 37");
         x = two();
         law(x, "burns 50");
         law(x, "bars");
@@ -872,7 +802,7 @@ public final class PromisesTest {
     }
 
     private static void eveningsAndImages() {
-        promise = 38;
+        in("promise 38");
         FuseFrames x = new FuseFrames();
         is("-1 is ahead", x.evenings(0, 0), -1);
         is("no fuses", x.evenings(0, 1), -3);
@@ -889,7 +819,7 @@ public final class PromisesTest {
         is("as calls would do", x.evenings(77, 33), goneByCalls(77, 33));
         x.terms(0, 999);
         is("it ends at once", x.evenings(5, 60), 0);
-        promise = 39;
+        in("promise 39");
         is("as it was", x.drawn(0, 1), 999);
         is("as it was", x.drawn(1, 1), -1);
         x = two();
@@ -906,7 +836,7 @@ public final class PromisesTest {
         x.evenings(-1, 0);
         is("refused: as it was", x.drawn(1, 1), 0);
 
-        promise = 40;
+        in("promise 40");
         x = two();
         is("image", x.image(1), 0);
         is("no such", x.image(2), -1);
@@ -916,7 +846,7 @@ public final class PromisesTest {
         is("no such", x.back(2), -1);
         is("no such", x.back(-1), -1);
         x.image(0);
-        promise = 41;
+        in("promise 41");
         x.fuse(5, 6, 7, 0);
         law(x, "burns 1");
         x.force(0);
@@ -988,7 +918,7 @@ public final class PromisesTest {
     }
 
     private static void countsAndStatus() {
-        promise = 42;
+        in("promise 42");
         FuseFrames x = two();
         x.fuse(0, 0, 0, 0);
         x.force(5);
@@ -1015,7 +945,7 @@ public final class PromisesTest {
         is("no such", x.count(18), -1);
         is("no such", x.count(-1), -1);
 
-        promise = 43;
+        in("promise 43");
         x = new FuseFrames();
         x.fuse(0, 0, 1, 0);
         is("fuse", x.status(), -1);
@@ -1086,9 +1016,6 @@ public final class PromisesTest {
         chances();
         eveningsAndImages();
         countsAndStatus();
-        System.out.println(asked + " answers asked, " + wrong + " wrong");
-        if (wrong != 0) {
-            System.exit(1);
-        }
+        finish();
     }
 }
