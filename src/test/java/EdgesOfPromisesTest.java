@@ -90,6 +90,7 @@ public final class EdgesOfPromisesTest extends Checks {
 
     private static void ofNothing() {
         FuseFrames x = ten();
+        x.light(0);
         for (int what = 0; what <= 7; what++) {
             for (int fuse : NO_FUSES) {
                 is("of(" + fuse + ", " + what + ")", x.of(fuse, what), -1);
@@ -587,10 +588,49 @@ public final class EdgesOfPromisesTest extends Checks {
         }
         for (int i = 39; i > 31; i--) {
             is("pass", x.undo(), 3);
-            is("soak", x.undo(), 1);
             is("second", x.count(14), i);
+            int damp = x.of(i % 2, 4);
+            is("soak", x.undo(), 1);
+            is("of the same fuse", x.of(i % 2, 4), 1 - damp);
         }
         isRefused(x, "no more", x.undo(), -3);
+    }
+
+    private static void swapsOfMany() {
+        FuseFrames x = ten();
+        for (int i = 0; i < 20; i++) {
+            x.swap(i % 6, i % 6 + 1);
+        }
+        String before = state(x);
+        orders(x, "swap 9 with 3 times 10;light done-10 times 8;soak 1 times 3;light 8");
+        orders(x, "pass if 1=2");
+        staysAsItWas("orders", x, before);
+        for (int i = 19; i >= 4; i--) {
+            int one = x.of(i % 6, 2);
+            int other = x.of(i % 6 + 1, 2);
+            is("swap", x.undo(), 2);
+            is("the one", x.of(i % 6, 2), other);
+            is("the other", x.of(i % 6 + 1, 2), one);
+            is("no second", x.count(14), 0);
+        }
+        isRefused(x, "no more", x.undo(), -3);
+    }
+
+    private static void eachUndoneAlone() {
+        FuseFrames x = two();
+        x.terms(0, 5);
+        x.pass();
+        x.light(1);
+        x.soak(1);
+        x.swap(0, 1);
+        is("swap", x.undo(), 2);
+        is("that alone", x.of(0, 2) * 1000 + x.of(1, 4) * 100 + x.at(1, 0) * 10 + x.count(14), 10166);
+        is("soak", x.undo(), 1);
+        is("that alone", x.of(0, 2) * 1000 + x.of(1, 4) * 100 + x.at(1, 0) * 10 + x.count(14), 10066);
+        is("light", x.undo(), 0);
+        is("that alone", x.of(0, 2) * 1000 + x.of(1, 4) * 100 + x.at(1, 0) * 10 + x.count(14), 9996);
+        is("pass", x.undo(), 3);
+        is("that alone", x.of(0, 2) * 1000 + x.of(1, 4) * 100 + x.at(1, 0) * 10 + x.count(14), 9995);
     }
 
     private static void undoneByOrders() {
@@ -955,6 +995,9 @@ public final class EdgesOfPromisesTest extends Checks {
         x.seen(7, 0);
         is("it was one: the lowest", x.look(0), 0);
         is("one is left", x.look(1), 1);
+        x.forget();
+        x.seen(0, 0);
+        is("it was at the first knot", x.look(0) * 10 + x.look(1), 1);
     }
 
     private static void wetThatCantBe() {
@@ -1306,6 +1349,8 @@ public final class EdgesOfPromisesTest extends Checks {
         edge("20", "-3 there is none", EdgesOfPromisesTest::nothingToUndo);
         edge("20", "16 are kept", EdgesOfPromisesTest::sixteenAreKept);
         edge("20", "The latest light(), soak(), swap(), pass()", EdgesOfPromisesTest::latestOfMany);
+        edge("20", "swap(), pass() (by ORDERS, too; 16 are kept)", EdgesOfPromisesTest::swapsOfMany);
+        edge("20", "is undone: 0 .. 3.", EdgesOfPromisesTest::eachUndoneAlone);
         edge("20", "by ORDERS, too", EdgesOfPromisesTest::undoneByOrders);
         edge("20", "nothing that was ahead of a fuse()", EdgesOfPromisesTest::aheadOfAFuse);
         edge("20", "nothing that was ahead of a fuse(), terms()", EdgesOfPromisesTest::aheadOfTerms);

@@ -182,6 +182,12 @@ public final class EdgesOfTermsTest extends Checks {
         faultOfLaw(" ".repeat(396) + "barx", 396);
         faultOfLaw(" ".repeat(400), 400);
         faultOfLaw("burns" + " ".repeat(395), 400);
+        faultOfLaw("(".repeat(400), 0);
+        faultOfLaw("a1".repeat(200), 0);
+        FuseFrames y = new FuseFrames();
+        for (int i = 0; i < 20; i++) {
+            is("one of many texts", orders(y, "pass if 0" + "+1".repeat(48) + "=48"), 1);
+        }
     }
 
     private static void tokens() {
@@ -205,6 +211,8 @@ public final class EdgesOfTermsTest extends Checks {
         faultOfLaw("bars`", 4);
         faultOfLaw("bars{", 4);
         faultOfLaw("z", 0);
+        faultOfLaw("barsz", 0);
+        faultOfLaw("barsa", 0);
         faultOfLaw("bars_if 1=1", 4);
         faultOfLaw("bars\341", 4);
         faultOfLaw("bars\372", 4);
@@ -321,6 +329,8 @@ public final class EdgesOfTermsTest extends Checks {
         readsLaw(two + ";bars");
         readsLaw("burns [[1]]" + "+[1]".repeat(49));
         faultOfLaw(fifty + "+[1]", fifty.length() + 2);
+        FuseFrames x = new FuseFrames();
+        is("fifty of each text", law(x, fifty) * 10 + law(x, fifty), 1);
         String orders = "light 9" + "+1".repeat(49);
         is("fifty of orders", orders(new FuseFrames(), orders), -3);
         faultOfOrders(orders + "+1", orders.length() + 1);
@@ -403,6 +413,9 @@ public final class EdgesOfTermsTest extends Checks {
         is("not not", under("bars if not not 1/0 = 1").of(0, 6), 1);
         is("within brackets", under("bars if (1/0 = 1)").of(0, 6), 1);
         is("not so, and not broken", under("bars if not 1 = 2").of(0, 6), 0);
+        is("so, and not broken", under("bars if not 1 = 1").of(0, 6), 1);
+        is("so, and not broken", under("bars if not 2 = 2").of(0, 6), 1);
+        is("not not", under("bars if not not 1 = 1").of(0, 6), 0);
     }
 
     private static void asksBehind() {
@@ -412,6 +425,10 @@ public final class EdgesOfTermsTest extends Checks {
         is("not so and broken", under("bars if not (1=2 and 1/0=1)").of(0, 6), 0);
         is("so and broken", under("bars if not (1=1 and 1/0=1)").of(0, 6), 1);
         is("broken and not so", under("bars if not (1/0=1 and 1=2)").of(0, 6), 1);
+        is("less or broken", under("bars if 1<2 or 1/0=1").of(0, 6), 0);
+        is("more or broken", under("bars if 2>1 or 1/0=1").of(0, 6), 0);
+        is("not less and broken", under("bars if not (2<2 and 1/0=1)").of(0, 6), 0);
+        is("not more and broken", under("bars if not (2>2 and 1/0=1)").of(0, 6), 0);
         is("so or broken or broken", under("bars if 1=1 or 1/0=1 or 1/0=1").of(0, 6), 0);
         is("not so or so or broken", under("bars if 1=2 or 1=1 or 1/0=1").of(0, 6), 0);
         is("not so and broken and broken", under("bars if not (1=2 and 1/0=1 and 1/0=1)").of(0, 6), 0);
@@ -491,6 +508,13 @@ public final class EdgesOfTermsTest extends Checks {
         is("the first again", x.of(0, 5), 1);
     }
 
+    private static void moodNow() {
+        FuseFrames x = under("burns mood+1;holds mood");
+        is("at first", x.of(0, 5) * 10 + x.at(0, 1), 10);
+        x.terms(2, 9);
+        is("the highest", x.of(0, 5) * 10 + x.at(0, 1), 109);
+    }
+
     private static void clausesThatHold() {
         is("not so", under("burns 7;burns 8 if 1=2").of(0, 5), 7);
         is("its test is broken", under("burns 7;burns 8 if 1/0=0").of(0, 5), 7);
@@ -527,6 +551,10 @@ public final class EdgesOfTermsTest extends Checks {
         is("the last that holds tells", under("holds 5;holds 6 if knot = 1").at(0, 1), 5);
         is("without", under("holds 5 if knot = 1").at(0, 1), 0);
         is("without any holds", under("burns 5").at(0, 1), 0);
+        FuseFrames x = under("holds 5");
+        is("by a law", x.at(0, 1), 5);
+        x.force(-1);
+        is("without a law again", x.at(0, 1), 0);
     }
 
     private static void barred() {
@@ -672,9 +700,13 @@ public final class EdgesOfTermsTest extends Checks {
     private static void goneByNow() {
         FuseFrames x = two();
         x.light(0);
+        is("none at 0", orders(x, "soak 1 times 2 if gone = 0;soak 1 if gone = 1"), 2);
         is("none at 9", orders(x, "pass times 9;soak 1 if gone > 0"), 9);
         is("one at 10", orders(x, "pass;pass if gone = 1"), 2);
         is("two at 14", orders(x, "pass times 3;pass if gone = 2"), 4);
+        x.soak(0);
+        is("none, damp ahead of the orders", orders(x, "soak 0 times 2 if gone = 0;pass if gone = 1"), 1);
+        is("two again", orders(x, "pass if gone = 2"), 1);
         is("none, if it is damp now", orders(x, "soak 0;pass if gone = 0"), 2);
     }
 
@@ -752,6 +784,30 @@ public final class EdgesOfTermsTest extends Checks {
         FuseFrames y = two();
         y.soak(0);
         is("none by a fuse that does not catch", y.when(1, 1), -1);
+    }
+
+    private static void heldAhead() {
+        FuseFrames x = under("holds 3 if knot = 0;holds 9 if knot = 2");
+        is("held at 0, not at 1", x.when(1, 1), 13);
+        is("not held at 1, nor at 0", x.when(2, 0), 10);
+        is("held at 0", x.when(1, 2), 17);
+        is("held at 2", x.when(4, 0), 23);
+        is("there it is not held", x.when(4, 2), 0);
+        x.terms(0, 5);
+        x.light(2);
+        is("behind a match", x.at(2, 2) * 100 + x.at(1, 2), 518);
+    }
+
+    private static void outByOneEnd() {
+        FuseFrames x = under("holds 9 if knot = 0");
+        is("held ahead of it", x.out(1, 0), 38);
+        is("from its other end: 0 holds what comes there too late", x.out(2, 0), 20);
+        is("behind it", x.out(1, 1), 46);
+        law(x, "holds 9 if knot = 1");
+        x.force(1);
+        is("1 holds what comes there too late", x.out(1, 0), 20);
+        is("held ahead of it", x.out(2, 0), 38);
+        is("held ahead of it", x.out(2, 1), 26);
     }
 
     private static void outByBothEnds() {
@@ -914,6 +970,10 @@ public final class EdgesOfTermsTest extends Checks {
         x.fuse(6, 7, 5, 0);
         is("the lowest of two alike", x.centre(0), 3);
         is("seconds", x.centre(1), 20);
+        FuseFrames y = frame(0, 1, 5, 0, 2, 5, 0, 3, 5, 0, 4, 5, 0, 5, 5, 0, 6, 5, 0, 7, 5);
+        is("the first knot", y.centre(0) * 10 + y.centre(1), 5);
+        FuseFrames z = frame(7, 1, 5, 7, 2, 5, 7, 3, 5, 7, 4, 5, 7, 5, 5, 7, 6, 5, 7, 0, 5);
+        is("the last knot", z.centre(0) * 10 + z.centre(1), 75);
     }
 
     private static void firstWay() {
@@ -926,6 +986,12 @@ public final class EdgesOfTermsTest extends Checks {
         is("from there 0, 1 is ahead of 2", x.way(2, 0, 0) * 10 + x.way(2, 0, 1), 1);
         x = frame(0, 2, 11, 0, 1, 5, 1, 2, 5);
         is("soonest ahead of first", x.way(0, 2, 0) * 10 + x.way(0, 2, 1), 12);
+        x = frame(0, 1, 5, 0, 1, 5, 0, 1, 5);
+        x.soak(0);
+        is("damp ones aside", x.way(0, 1, 0), 1);
+        law(x, "bars if fuse = 1");
+        x.force(0);
+        is("barred ones aside", x.way(0, 1, 0), 2);
     }
 
     private static void fewestToCut() {
@@ -938,6 +1004,7 @@ public final class EdgesOfTermsTest extends Checks {
         law(x, "bars if fuse = 2");
         x.force(0);
         is("barred ones are none of them", x.cut(0, 3, 0) + x.cut(0, 3, 1), 0);
+        is("all ten", ten().cut(0, 1, 0) * 10000 + ten().cut(0, 1, 1), 101023);
     }
 
     private static void lowestExchanged() {
@@ -965,6 +1032,14 @@ public final class EdgesOfTermsTest extends Checks {
         is("20 from 3", x.measured(20, 1), 1);
         is("nothing between", frame(3, 4, 5, 3, 5, 5).measured(10, 1), 2);
         FuseFrames y = frame(0, 1, 3, 0, 2, 3, 1, 2, 1);
+        FuseFrames z = two();
+        z.soak(0);
+        is("out at 8 from 1", z.measured(8, 0), 1);
+        is("nothing to a damp one", z.measured(9, 0), -1);
+        z.soak(0);
+        z.soak(1);
+        is("out at 20 from 0", z.measured(20, 0), 0);
+        is("nothing to a damp one", z.measured(21, 0), -1);
         is("half a second", y.measured(1, 0), 0);
         is("two such", y.measured(1, 1), 2);
     }
@@ -1196,6 +1271,33 @@ public final class EdgesOfTermsTest extends Checks {
         is("it is not damp", x.of(2, 4), 0);
     }
 
+    private static void imagesKeepAllOfIt() {
+        FuseFrames x = new FuseFrames();
+        x.image(1);
+        x.fuse(1, 2, 3, 1);
+        x.fuse(2, 3, 4, 2);
+        x.letter(1);
+        x.seen(3, 7);
+        law(x, "burns 9 if second = 1");
+        x.image(0);
+        x.back(1);
+        x.fuse(4, 5, 6, 3);
+        x.fuse(6, 7, 8, 0);
+        x.letter(3);
+        x.seen(5, 0);
+        law(x, "burns 50");
+        x.back(0);
+        x.force(0);
+        int[] due = {1, 2, 3, 1, 0, 3, 2, 3, 4, 2, 0, 4};
+        for (int i = 0; i < due.length; i++) {
+            is("fuse " + i / 6 + ", what " + i % 6, x.of(i / 6, i % 6), due[i]);
+        }
+        is("the letter", x.stands(4, 0), 6);
+        is("seen", x.was(), 1 << 1);
+        x.back(1);
+        is("nothing of it", x.count(0) + x.count(3) + x.count(4) + x.count(5), 0);
+    }
+
     private static void imagesDoNotKeep() {
         FuseFrames x = two();
         x.evenings(3, 1);
@@ -1305,6 +1407,7 @@ public final class EdgesOfTermsTest extends Checks {
                 EdgesOfTermsTest::askedOfKnot);
         edge("II", "ends: how many FUSES are tied to it", EdgesOfTermsTest::endsOfKnots);
         edge("II", "second: SECOND now.", EdgesOfTermsTest::secondNow);
+        edge("II", "\"second\" | \"mood\"", EdgesOfTermsTest::moodNow);
         edge("II", "A CLAUSE HOLDS, if its \"if\" (if it has one) is so, and neither that nor its SUM is BROKEN.",
                 EdgesOfTermsTest::clausesThatHold);
         edge("II", "A FUSE BURNS 1 .. 99 SECONDS as the last \"burns\" that HOLDS tells (else the nearest), without as many as it is"
@@ -1336,6 +1439,8 @@ public final class EdgesOfTermsTest extends Checks {
 
     private static void fireEdges() {
         edge("III", "the earliest of these counts.", EdgesOfTermsTest::earliestFire);
+        edge("III", "as long behind it came to that one as that HOLDS it and the FUSE BURNS", EdgesOfTermsTest::heldAhead);
+        edge("III", "The FUSE is OUT (told in half SECONDS) as long behind the first end as it BURNS", EdgesOfTermsTest::outByOneEnd);
         edge("III", "if fire goes in at the other end, too, ahead of that, when both fires meet: at half of both and BURNS together.",
                 EdgesOfTermsTest::outByBothEnds);
         edge("III", "(All as it is now: LONG, DAMP, laws, whatever they were.)", EdgesOfTermsTest::allAsItIsNow);
@@ -1356,7 +1461,7 @@ public final class EdgesOfTermsTest extends Checks {
         edge("III", "the fewest FUSES that CATCH by which, if they were DAMP, fire from the one would not come to the other; the"
                 + " lowest as bits.", EdgesOfTermsTest::fewestToCut);
         edge("III", "sooner than now; as ten times the lower and the higher one, the lowest.", EdgesOfTermsTest::lowestExchanged);
-        edge("III", "MEASURED: the lowest KNOT from which (by one match) just so many half SECONDS lie between two of these",
+        edge("III", "just so many half SECONDS lie between two of these: the match, FUSES that are OUT; how many such twos.",
                 EdgesOfTermsTest::lowestMeasured);
         edge("III", "IT WAS at KNOTS by one match at which all SEEN would be so.", EdgesOfTermsTest::wasWhereAllWasSeen);
         edge("III", "the most from which fire would come alike (never: alike) are as few as can be; the lowest.",
@@ -1378,6 +1483,7 @@ public final class EdgesOfTermsTest extends Checks {
         edge("IV", "one within which the TAPE ends", EdgesOfTermsTest::ashAtTheEnd);
         edge("IV", "one for which there is no room is ASH: nothing.", EdgesOfTermsTest::ashWithoutRoom);
         edge("IV", "BACK to one all that it keeps is as it was then", EdgesOfTermsTest::imagesKeep);
+        edge("IV", "IMAGES 0, 1 keep all", EdgesOfTermsTest::imagesKeepAllOfIt);
         edge("IV", "keep all but the TAPE, FAULT, ASH, where ORDERS stopped, what can be undone (nothing, behind back()), the latest"
                 + " EVENINGS", EdgesOfTermsTest::imagesDoNotKeep);
         edge("IV", "(IMAGES stay)", EdgesOfTermsTest::imagesStay);

@@ -13,7 +13,7 @@ import java.util.Random;
  */
 public final class ModelTest {
     private static final int RUNS = 2500;
-    private static final int CALLS = 500;
+    private static final int CALLS = 460;
 
     // ---- the second program
 
