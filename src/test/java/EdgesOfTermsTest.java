@@ -1138,7 +1138,7 @@ public final class EdgesOfTermsTest extends Checks {
         return frame(0, 1, 1, 0, 1, 1, 0, 1, 1, 0, 1, 1, 0, 1, 1, 0, 1, 1, 0, 1, 1, 0, 1, 1, 0, 1, 1, 0, 1, 1);
     }
 
-    // From 2 the draws are 14551, 62373, 810279, 734213, .. : fuse 1, knot 5, 0; and so on.
+    // From 2 the draws are 14551, 62050 (wrapped around), 453291, ..: fuse 1, knot 2, 0, which soaks it.
     private static void drawsWrapAround() {
         FuseFrames x = ten();
         x.evenings(2, 1);
